@@ -903,7 +903,14 @@ public final class LastCalled {
 
         private boolean isNumberNext(int bound) {
             advance();
-            return sort == NUMBER && value < bound;
+            if (sort != NUMBER || end - start > 2) {
+                return false;
+            }
+            value = 0;
+            for (int i = start; i < end; i++) {
+                value = 10 * value + (bytes[i] - '0');
+            }
+            return value < bound;
         }
 
         private boolean isWord(String word) {
@@ -924,41 +931,25 @@ public final class LastCalled {
                 start++;
             }
             end = start;
-            value = 0;
-            if (start >= length) {
-                sort = END;
-            } else if (isLetter(start)) {
-                takeWord();
-            } else if (isFigure(start)) {
-                takeNumber();
-            } else {
-                sort = bytes[start] == ';' ? STOP : WRONG;
+            sort = END;
+            if (start < length) {
+                sort = sortOf(bytes[start]);
+                end++;
+            }
+            boolean runsOn = sort == WORD || sort == NUMBER;
+            while (runsOn && end < length && sortOf(bytes[end]) == sort) {
                 end++;
             }
         }
 
-        private void takeWord() {
-            sort = WORD;
-            while (end < length && isLetter(end)) {
-                end++;
+        private static int sortOf(int c) {
+            if (c >= 'a' && c <= 'z') {
+                return WORD;
             }
-        }
-
-        private void takeNumber() {
-            // of more figures than two the value is never asked for, so its wrapping does no harm
-            while (end < length && isFigure(end)) {
-                value = 10 * value + (bytes[end] - '0');
-                end++;
+            if (c >= '0' && c <= '9') {
+                return NUMBER;
             }
-            sort = end - start <= 2 ? NUMBER : WRONG;
-        }
-
-        private boolean isLetter(int i) {
-            return bytes[i] >= 'a' && bytes[i] <= 'z';
-        }
-
-        private boolean isFigure(int i) {
-            return bytes[i] >= '0' && bytes[i] <= '9';
+            return c == ';' ? STOP : WRONG;
         }
     }
 

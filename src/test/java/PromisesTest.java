@@ -181,6 +181,9 @@ public final class PromisesTest {
         Due.is("6 seven", read(x, "hamlet 0;one 0 0;one 0 1;one 0 2;one 0 3;one 0 4;one 0 5;one 0 6;bears 6 0;"), 9);
         Due.is("6 seven there", x.count(0), 7);
         Due.is("6 the last bears the first's", x.bearers(0), 65);
+        read(x, "hamlet 0;one 0 0;one 0 0;none 0;");
+        Due.is("6 nothing is left of a hamlet told before", read(x, "hamlet 0;one 0 0;"), 2);
+        Due.is("6 its name", x.of(0, 2), 0);
         String full = "hamlet 1;one 0 0;";
         Due.is("6 150 bytes", read(x, full + " ".repeat(150 - full.length())), 2);
         Due.is("6 nothing refused", x.status(0) + x.status(1) + x.status(2), 0);
@@ -242,6 +245,11 @@ public final class PromisesTest {
         fault("hamlet 5;one 0 0;none none;", 22);
         fault("hamlet 5;one 0 0;bears 0;", 24);
         fault("hamlet 5;one 0 0;!", 17);
+        fault("hamlet 5;pne 0 0;", 9);
+        fault("hamlet 5;onz 0 0;", 9);
+        fault("hamlet 5;" + " ".repeat(140) + "5", 149);
+        fault("hamlet 5;" + " ".repeat(138) + "one", 150);
+        fault("hamlet " + " ".repeat(141) + "55", 150);
         String seven = "hamlet 0;one 0 0;one 0 1;one 0 2;one 0 3;one 0 4;one 0 5;one 0 6;";
         fault(seven + "one 9 9;", seven.length());
         fault(seven + "one", seven.length());
@@ -428,6 +436,10 @@ public final class PromisesTest {
         Due.is("14 what 2", x.names(2), LastCalled.BAD);
         Due.is("14 what -1", x.names(-1), LastCalled.BAD);
         refused("13, 14", x, before, 4, 0, 0);
+        LastCalled gone = told("hamlet 0;one 0 0;one 0 0;none 0;bears 1 0;");
+        gone.hamlet(0);
+        gone.one(CAREFUL, 0);
+        Due.is("13 who is gone bears nothing", gone.bearers(0), 1);
         Due.is("14 one alone is no firm", told("hamlet 0;one 0 0;").names(1), 0);
         Due.is("14 nobody is there", new LastCalled().names(0), 0);
     }
@@ -480,6 +492,11 @@ public final class PromisesTest {
         LastCalled three = told("hamlet 0;one 0 0;one 0 5;one 0 9;none 0;none 1;none 2;");
         Due.is("16 two of three", three.own(1), 2);
         Due.is("16 by two calls", three.own(0), 2);
+        LastCalled zero = told("hamlet 0;one 0 0;none 0;");
+        Due.is("16 the very first call", zero.own(2), 0);
+        LastCalled keeps = told("hamlet 0;one 0 0;one 1 0;one 0 9;none 2;");
+        Due.is("16 a call for the far one alone", keeps.own(2), 26);
+        Due.is("16 leaves the others theirs", keeps.own(1), 3);
         LastCalled lost = told("hamlet 0;one 1 0;none 0;");
         Due.is("16 no call helps", lost.own(0), 0);
         Due.is("16 none has it", lost.own(1), 0);
@@ -541,6 +558,9 @@ public final class PromisesTest {
         Due.is("23 notes stay", x.count(4), 1);
         Due.is("23 again", x.forget(0), 0);
         Due.is("20 none unpaid", x.unpaid(), 0);
+        LastCalled first = told("hamlet 0;one 0 0;none 0;");
+        first.deed(0, 9);
+        Due.is("20 on the first name", first.unpaid(), 9);
         x.owes(0);
         fraction("19 no deeds", x, 0, 1);
         Due.is("18 anew", x.deed(3, 5), 1);
@@ -562,6 +582,11 @@ public final class PromisesTest {
         Due.is("21 nobody hears", y.ears(0, 1, 0, 9), 15);
         Due.is("21 its own, alone", y.ears(0, 1, 0, 0), 15);
         Due.is("21 a firm of two", told("hamlet 0;one 1 0;one 1 0;bears 1 0;").ears(0, 1, 0, 0), 1 | 8);
+        LastCalled z = told("hamlet 0;one 0 0;one 1 9;one 0 0;");
+        Due.is("21 a turns or not, b bears it far off", z.ears(0, 1, 1, 0), 1 | 4);
+        Due.is("21 the bearer turns and no other may take it", told("hamlet 0;one 1 0;one 0 0;").ears(0, 1, 0, 0), 1);
+        LastCalled few = told("hamlet 0;one 0 0;one 0 0;none 0;none 1;");
+        Due.is("21 who stops them never has what nobody had", few.ears(0, 1, 0, 0), 1);
         Due.is("21 nothing changed", x.digest(), before);
         Due.is("21 alike", x.ears(1, 1, 0, 0), LastCalled.BAD);
         Due.is("21 a 3", x.ears(3, 0, 0, 0), LastCalled.BAD);
@@ -639,6 +664,10 @@ public final class PromisesTest {
     }
 
     private static void next() {
+        Due.is("26 cliff: somebody bears it, all are alike", told("hamlet 0;one 5 0;").next(0), 0);
+        LastCalled cliff = told("hamlet 0;one 5 0;");
+        cliff.note(0, 0, 0, 1, 1);
+        Due.is("26 cliff, 0 to 3", cliff.next(0), 0);
         LastCalled x = told("hamlet 1;one 0 5;one 1 5;one 4 0;one 3 0;one 2 0;");
         Due.is("26 five of ten", x.next(0), 1);
         Due.is("26 careful: all are alike", x.next(1), 0);
@@ -717,6 +746,8 @@ public final class PromisesTest {
         Due.is("28 seed -1", x.weeks(-1, 0), LastCalled.BAD);
         Due.is("28 seed 1000000", x.weeks(1000000, 0), LastCalled.BAD);
         refused("28", x, before, 4, 1, 0);
+        read(x, "hamlet 0;one 0 0;");
+        Due.is("28 one alone", x.weeks(0, 60), 1);
         read(x, "hamlet 0;one 0 0;one 0 0;");
         before = x.digest();
         Due.is("28 no calls", x.weeks(0, 0), 2);
