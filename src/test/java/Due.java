@@ -2,15 +2,21 @@
 final class Due {
     private static int asked = 0;
     private static int wrong = 0;
+    private static String now = "";
 
     private Due() {
+    }
+
+    /** What is said from here on is said of that case. */
+    static void begin(String what) {
+        now = what + ": ";
     }
 
     static void is(String what, long got, long want) {
         asked++;
         if (got != want) {
             wrong++;
-            System.out.println(what + " answered " + got + ", due is " + want);
+            System.out.println(now + what + " answered " + got + ", due is " + want);
         }
     }
 
@@ -18,7 +24,7 @@ final class Due {
         asked++;
         if (!so) {
             wrong++;
-            System.out.println("not so: " + what);
+            System.out.println("not so: " + now + what);
         }
     }
 

@@ -1,6 +1,5 @@
 /** Each promise of the document by itself: ordinary inputs, edges, and what is refused. */
-public final class PromisesTest {
-    private static final int PLAIN = 0, CAREFUL = 1, DEAF = 2, CHILD = 3, SHEEP = 4, CLIFF = 5;
+public final class PromisesTest extends Hamlets {
     private static final int[] FAR_OFF = {Integer.MIN_VALUE, -11, -2, -1, 1000, Integer.MAX_VALUE};
 
     public static void main(String[] args) {
@@ -38,29 +37,6 @@ public final class PromisesTest {
     }
 
     // ---- helpers
-
-    private static void type(LastCalled x, String text) {
-        for (int i = 0; i < text.length(); i++) {
-            x.type(text.charAt(i));
-        }
-    }
-
-    private static int read(LastCalled x, String text) {
-        x.clear();
-        type(x, text);
-        return x.read();
-    }
-
-    private static LastCalled told(String text) {
-        LastCalled x = new LastCalled();
-        Due.holds(text + " is read", read(x, text) > 0);
-        return x;
-    }
-
-    private static void fraction(String what, LastCalled x, long above, long below) {
-        Due.is(what + " above", x.part(0), above);
-        Due.is(what + " below", x.part(1), below);
-    }
 
     /** That a refusal counted under its reason alone and changed nothing else. */
     private static void refused(String what, LastCalled x, long before, int bad, int no, int full) {
