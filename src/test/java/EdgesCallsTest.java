@@ -380,6 +380,21 @@ public final class EdgesCallsTest extends Edges {
         answers(Edges::seven, x -> x.turn(0, 3), 127);
     }
 
+    static void promise12_asOneWouldNow_notAsBefore() {
+        LastCalled x = told("hamlet 0;one 4 0;one 0 9;");
+        Due.is("on an even day", x.turn(1, 0), 1);
+        x.day();
+        Due.is("on an odd day", x.turn(1, 0), 0);
+        x.day();
+        x.goes(0, 7);
+        Due.is("behind a step", x.turn(1, 0), 0);
+        x.undo();
+        Due.is("the step undone", x.turn(1, 0), 1);
+        x.hamlet(0);
+        x.one(PLAIN, 4);
+        Due.is("in another hamlet", x.turn(0, 0), 0);
+    }
+
     // ---- promise 13: bearers
 
     static void promise13_namesOfTheFirstAndTheLastWhoIsThereAreTaken_othersAreBad() {

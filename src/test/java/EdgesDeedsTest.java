@@ -220,6 +220,7 @@ public final class EdgesDeedsTest extends Edges {
     static void promise21_theBearerIsOutOfHearing_theOtherMayTakeIt() {
         // while b stops his ears a keeps the name, but b would rather have it
         answers(() -> told("hamlet 0;one 0 9;one 0 0;"), x -> x.ears(0, 1, 0, 0), NEITHER | A_ALONE);
+        answers(() -> told("hamlet 0;one 0 9;one 0 0;"), x -> x.ears(1, 0, 0, 0), NEITHER | B_ALONE);
     }
 
     static void promise21_ofSeven_theFirstAndTheLast() {

@@ -53,6 +53,15 @@ public final class EdgesFewestTest extends Edges {
         calls(told("hamlet 0;one 0 0;one 0 9;one 5 4;"), 2, 0, 2, 10);
     }
 
+    static void promise15_byTwo_theVeryFirstRow() {
+        calls(told("hamlet 0;one 5 9;one 0 3;"), 0, 1, 2, 0);
+    }
+
+    static void promise15_onlyNamesOfPeopleWhoAreThereAreCalled() {
+        // a cliff would leave its name for nobody's, but there is none that is nobody's
+        calls(told("hamlet 0;one 5 9;one 5 0;"), 0, 1, NONE, NONE);
+    }
+
     static void promise15_threeWouldBeNeeded_none() {
         LastCalled x = told("hamlet 0;one 1 9;one 0 7;one 5 0;");
         calls(x, 2, 0, NONE, NONE);
@@ -132,6 +141,18 @@ public final class EdgesFewestTest extends Edges {
 
     static void promise16_asManyByNoneAsByOne_none() {
         own(told("hamlet 0;one 0 0;one 0 0;bears 1 0;"), 0, 1, NONE);
+    }
+
+    static void promise16_onlyNamesOfPeopleWhoAreThereAreCalled() {
+        own(told("hamlet 0;one 5 9;one 5 0;bears 0 1;bears 1 0;"), 0, 0, NONE);
+    }
+
+    static void promise16_behindAnotherQuestion_asAhead() {
+        LastCalled x = told("hamlet 0;one 5 9;one 0 3;");
+        Due.is("another question", x.calls(0, 1, 0), 2);
+        own(x, 0, 2, NONE);
+        Due.is("another question", x.calls(1, 1, 1), NONE);
+        own(x, 0, 2, NONE);
     }
 
     static void promise16_onThisDayAlone() {

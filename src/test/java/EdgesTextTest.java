@@ -259,6 +259,13 @@ public final class EdgesTextTest extends Edges {
     static void promise06_aWordThatIsNone_isAFaultAtItsFirst() {
         fault("hamlets 5;", 0);
         fault("amlet 5;", 0);
+        fault("tamlet 5;", 0);
+        fault("hamlex 5;", 0);
+        faultBehind("hamlet 5;", "ane 0 0;", 0);
+        faultBehind("hamlet 5;", "ona 0 0;", 0);
+        faultBehind("hamlet 5;one 0 0;", "cears 0 0;", 0);
+        faultBehind("hamlet 5;one 0 0;", "beart 0 0;", 0);
+        faultBehind("hamlet 5;one 0 0;", "mone 0;", 0);
         faultBehind("hamlet 5;", "ones 0 0;", 0);
         faultBehind("hamlet 5;", "two 0 0;", 0);
         faultBehind("hamlet 5; ", "oneone 0 0;", 0);

@@ -129,6 +129,25 @@ public final class EdgesThereTest extends Edges {
         Due.is("place", x.of(0, 1), 0);
     }
 
+    static void promise30_allThatIsFullIsKeptWhole() {
+        LastCalled x = full();
+        LastCalled twin = full();
+        x.hamlet(0);
+        for (int p = 0; p < 7; p++) {
+            x.one(DEAF, 4);
+        }
+        for (int i = 0; i < 6; i++) {
+            x.deed(6, 60);
+            x.note(6, 9, 99, 1, 0);
+        }
+        for (int i = 0; i < 8; i++) {
+            x.goes(6, 3);
+            x.day();
+        }
+        Due.is("from", x.from(1), 1);
+        Due.holds("all is as it was", seen(x).equals(seen(twin)));
+    }
+
     // ---- promise 31: from
 
     static void promise31_images0And1AreTaken_minus1And2AreBad() {

@@ -251,6 +251,13 @@ public final class EdgesTurnedTest extends Edges {
         answers(() -> told("hamlet 1;one 4 5;"), x -> x.next(0), 0);
     }
 
+    static void promise26_theCliffTurnsNot_asSomebodyBearsIt() {
+        LastCalled x = alone(CLIFF, 5);
+        x.note(0, 0, 0, 1, 1);
+        Due.is("0 to 3", x.stood(0), placesFrom(0, 3));
+        Due.is("all are alike", x.next(0), 0);
+    }
+
     static void promise26_noNotes_eachKind() {
         int[] due = {1, 0, 1, 0, 0, 0};
         for (int kind = 0; kind < 6; kind++) {
